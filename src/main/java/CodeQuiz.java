@@ -33,6 +33,7 @@ public final class CodeQuiz {
     private final Machine second = new Machine();
     private final int[] choiceValues = new int[SINGLES];
     private final int[] choiceSlips = new int[SINGLES];
+    private final int[] setAnswers = new int[MACHINE_LIMIT];
     private final int[] partedPairs = new int[PARTING_QUESTIONS];
     private int programCount;
     private int questionCount;
@@ -297,7 +298,7 @@ public final class CodeQuiz {
         int least = MACHINE_LIMIT + 1;
         for (int q = 0; q < questionCount; q++) {
             if (!pupils[pupil].hasAnswered(q)) {
-                int most = mostAlike(questions[q], sets);
+                int most = mostAlike(listSetAnswers(questions[q], sets));
                 if (most < least) {
                     least = most;
                     best = q;
@@ -506,24 +507,30 @@ public final class CodeQuiz {
         return sets;
     }
 
-    private int mostAlike(Question asked, long sets) {
-        int most = 0;
+    private int listSetAnswers(Question asked, long sets) {
+        int listed = 0;
         for (int machine = 0; machine < MACHINE_LIMIT; machine++) {
             if (hasBit(sets, machine)) {
-                most = Math.max(most, howManyGive(asked, sets, answerBy(asked, machine)));
+                setAnswers[listed] = answerBy(asked, machine);
+                listed++;
             }
         }
-        return most;
+        return listed;
     }
 
-    private int howManyGive(Question asked, long sets, int value) {
-        int alike = 0;
-        for (int machine = 0; machine < MACHINE_LIMIT; machine++) {
-            if (hasBit(sets, machine) && answerBy(asked, machine) == value) {
-                alike++;
+    /** The greatest number of listed set answers that are one and the same. */
+    private int mostAlike(int listed) {
+        int most = 0;
+        for (int i = 0; i < listed; i++) {
+            int alike = 0;
+            for (int j = 0; j < listed; j++) {
+                if (setAnswers[i] == setAnswers[j]) {
+                    alike++;
+                }
             }
+            most = Math.max(most, alike);
         }
-        return alike;
+        return most;
     }
 
     /** A bit for each two of the seven machines, set if they answer the question unlike. */
@@ -659,7 +666,11 @@ public final class CodeQuiz {
                     variables[x] = y;
                     break;
                 case COPY:
-                    doCopy(x, y);
+                    if (has(SLIP_COPY)) {
+                        variables[y] = variables[x];
+                    } else {
+                        variables[x] = variables[y];
+                    }
                     break;
                 case ADD:
                     variables[x] += variables[y];
@@ -668,9 +679,9 @@ public final class CodeQuiz {
                     variables[x] = has(SLIP_SUB) ? variables[y] - variables[x] : variables[x] - variables[y];
                     break;
                 case LOOP:
-                    return enterLoop(at, x) ? at + 1 : program.mates[at] + 1;
+                    return enterLoop(at, x, has(SLIP_LOOP)) ? at + 1 : program.mates[at] + 1;
                 case LESS:
-                    return isLess(x, y) ? at + 1 : program.mates[at] + 1;
+                    return isLess(x, y, has(SLIP_LESS)) ? at + 1 : program.mates[at] + 1;
                 case END:
                     return goesRound(program, at) ? program.mates[at] + 1 : at + 1;
                 case PUT:
@@ -680,30 +691,22 @@ public final class CodeQuiz {
                     variables[x] = cells[placeOf(y, has(SLIP_GET) ? 1 : 0)];
                     break;
                 default:
-                    doShare(x, y);
+                    doShare(x, y, has(SLIP_SHARE));
                     break;
             }
             return at + 1;
         }
 
-        private void doCopy(int x, int y) {
-            if (has(SLIP_COPY)) {
-                variables[y] = variables[x];
-            } else {
-                variables[x] = variables[y];
-            }
-        }
-
-        private boolean enterLoop(int at, int x) {
+        private boolean enterLoop(int at, int x, boolean onceMore) {
             if (variables[x] <= 0) {
                 return false;
             }
-            roundsLeft[at] = (long) variables[x] + (has(SLIP_LOOP) ? 1 : 0);
+            roundsLeft[at] = (long) variables[x] + (onceMore ? 1 : 0);
             return true;
         }
 
-        private boolean isLess(int x, int y) {
-            return variables[x] < variables[y] || (has(SLIP_LESS) && variables[x] == variables[y]);
+        private boolean isLess(int x, int y, boolean orAlike) {
+            return variables[x] < variables[y] || (orAlike && variables[x] == variables[y]);
         }
 
         private boolean goesRound(Program program, int at) {
@@ -720,10 +723,12 @@ public final class CodeQuiz {
             return rowStarts[x / VARIABLES] + ((variables[x % VARIABLES] + further) & (ROW_CELLS - 1));
         }
 
-        private void doShare(int x, int y) {
-            if (has(SLIP_SHARE)) {
+        private void doShare(int x, int y, boolean asItsOwn) {
+            if (asItsOwn) {
                 // With this slip no two names ever share, so the row of x is its own already.
-                System.arraycopy(cells, rowStarts[y], cells, rowStarts[x], ROW_CELLS);
+                for (int k = 0; k < ROW_CELLS; k++) {
+                    cells[rowStarts[x] + k] = cells[rowStarts[y] + k];
+                }
             } else {
                 rowStarts[x] = rowStarts[y];
             }

@@ -363,6 +363,13 @@ public final class PromiseTest {
         desk.run(0, 2, 0);
         desk.run(0, 3, 0);
         due.is("the later one", desk.told(2), 33);
+        int shares = add(desk, SHARE, 0, 1, PUT, 0, 0);
+        desk.run(shares, 2, 0);
+        due.is("one row", desk.told(13), 1);
+        desk.run(0, 3, 0);
+        due.is("each name has its own row again", desk.told(13), 0);
+        due.is("cells are 0 again", desk.told(6), 0);
+        due.is("cells are 0 again", desk.told(10), 0);
         desk.question(0, 5, 0, 2);
         desk.answer(0, 2);
         desk.choices(0, 2);
@@ -614,6 +621,10 @@ public final class PromiseTest {
         due.is("only 9 comes there", last.gap(0, 2), 1);
         due.is("a question does not hinder", last.question(0, 0, 0, 0), 0);
         due.is("only 8 parts 8 from 9", last.gap(0, 0), 1);
+        // No input is above 9: only 10 would part 9 from 8.
+        CodeQuiz past = desk(SET, 1, 9, LESS, 1, 0, SET, 2, 3, END, 0, 0, SET, 1, 0);
+        due.is("no input 10", past.gap(0, 2), 19);
+        due.is("not less than 9", past.gap(0, 0), 1);
         // Slips do not matter, and the true machine's runs only.
         CodeQuiz overwritten = desk(SET, 1, 4, SET, 2, 1, COPY, 1, 2);
         due.is("overwritten", overwritten.gap(0, 0), 19);
@@ -623,6 +634,9 @@ public final class PromiseTest {
         due.part("13 gap, cells");
         CodeQuiz desk = desk(SET, 1, 5, PUT, 0, 1, SET, 1, 0);
         due.is("row 0", desk.gap(0, 0), 1);
+        CodeQuiz firstCell = desk(SET, 2, 4, SET, 1, 5, PUT, 2, 1, SET, 1, 0);
+        due.is("cell 0", firstCell.gap(0, 1), 1);
+        due.is("cell 0 by place", firstCell.gap(0, 0), 1);
         due.is("row 1", desk(SET, 1, 5, PUT, 4, 1, SET, 1, 0).gap(0, 0), 1);
         // The place counts by its lowest bits: 5 is as -7, -3, 1, 9.
         CodeQuiz place = desk(SET, 1, 5, PUT, 5, 0, SET, 1, 0);
@@ -732,10 +746,15 @@ public final class PromiseTest {
         due.is("only by 9", desk.same(2, 1), 9);
         due.is("cells do not count", desk.same(0, 3), 10);
         due.is("by 1 first", desk.same(4, 0), 1);
+        int always = add(desk, SET, 0, 0);
+        int zeroElse = add(desk, LESS, 1, 0, SET, 0, 0, END, 0, 0, SET, 1, 0);
+        int onlyZero = add(desk, SET, 1, 1, LESS, 0, 1, SET, 2, 7, END, 0, 0, SET, 1, 0, SET, 0, 0);
+        due.is("alike by all", desk.same(always, zeroElse), 10);
+        due.is("only by 0", desk.same(always, onlyZero), 0);
         due.is("one not whole", desk.same(0, open), STATE);
         due.is("one not whole", desk.same(open, 0), STATE);
-        due.is("NONE ahead of STATE", desk.same(open, 6), NONE);
-        due.is("NONE ahead of STATE", desk.same(6, open), NONE);
+        due.is("NONE ahead of STATE", desk.same(open, 9), NONE);
+        due.is("NONE ahead of STATE", desk.same(9, open), NONE);
         for (int odd : ODD) {
             due.is("no program", desk.same(odd, 0), NONE);
             due.is("no program", desk.same(0, odd), NONE);
@@ -792,6 +811,10 @@ public final class PromiseTest {
             due.is("give", many.give(3, q, 0), q + 1);
         }
         due.is("all are right", many.cost(3, 0), 0);
+        due.is("no question 60", many.give(3, 60, 0), NONE);
+        due.is("no question 60", many.answer(60, 0), NO_VALUE);
+        due.is("none left", many.next(3), NOTHING);
+        due.is("all for another", many.next(4), 0);
     }
 
     private static void price() {
@@ -1020,6 +1043,8 @@ public final class PromiseTest {
                 SUB, 2, 3);                                             // 3 less, by SUB below 0
         due.is("question", one.question(0, 0, 0, 2), 0);
         due.is("one", one.parting(), 1);
+        due.is("question", one.question(0, 0, 0, 1), 1);
+        due.is("the first of two", one.parting(), 1);
     }
 
     private static void partingFirstTwelve() {
