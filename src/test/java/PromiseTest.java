@@ -285,6 +285,7 @@ public final class PromiseTest {
         // 1: a row of its own, with the same cells.
         ran(desk(PUT, 0, 0, SHARE, 1, 0, SET, 1, 1, PUT, 1, 0), 2, 1, 4, 6, 2, 10, 2, 5, 2, 9, 0, 13, 0);
         ran(desk(PUT, 0, 0, SHARE, 0, 1), 2, 1, 2, 6, 0, 10, 0, 13, 0);
+        ran(desk(SET, 1, 8, PUT, 1, 0, SHARE, 1, 0), 3, 1, 3, 4, 3, 8, 3, 13, 0);
         ran(desk(PUT, 0, 0, SHARE, 0, 0), 2, 1, 2, 6, 2, 10, 0, 13, 0);
         // 2: once more, if at all; nested ones, too.
         CodeQuiz loop = desk(SET, 1, 1, LOOP, 0, 0, ADD, 2, 1, END, 0, 0);
@@ -404,6 +405,8 @@ public final class PromiseTest {
         desk.run(1, 0, 0);
         due.is("the later run", desk.done(0), 1);
         due.is("the later run's program is shorter", desk.done(1), NONE);
+        desk.line(1, SET, 0, 1);
+        due.is("a line that the run did not have", desk.done(1), NONE);
     }
 
     private static void question() {
