@@ -24,6 +24,10 @@ final class Due {
         }
     }
 
+    int looked() {
+        return looked;
+    }
+
     void end() {
         System.out.println(looked + " looked at, " + wrong + " wrong");
         if (wrong != 0) {

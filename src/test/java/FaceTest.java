@@ -1,10 +1,12 @@
 import java.lang.reflect.Constructor;
 import java.lang.reflect.Field;
+import java.lang.reflect.InvocationTargetException;
 import java.lang.reflect.Method;
 import java.lang.reflect.Modifier;
 import java.io.IOException;
 import java.nio.file.Files;
 import java.nio.file.Path;
+import java.util.Arrays;
 import java.util.HashSet;
 import java.util.Map;
 import java.util.Set;
@@ -12,8 +14,7 @@ import java.util.TreeMap;
 import java.util.regex.Pattern;
 
 /** The class shows the document's face and nothing else, and keeps to rules that can be seen from outside. */
-public final class FaceTest {
-    private static final Due due = new Due();
+public final class FaceTest extends Desks {
     private static final Map<String, Integer> METHODS = new TreeMap<>(Map.ofEntries(
             Map.entry("program", 0), Map.entry("line", 4), Map.entry("about", 3), Map.entry("whole", 1),
             Map.entry("run", 3), Map.entry("told", 1), Map.entry("done", 1), Map.entry("question", 4),
@@ -25,7 +26,11 @@ public final class FaceTest {
     private static final String[] WORDS_RULED_OUT = {"throw", "throws", "try", "catch", "synchronized", "assert",
         "static\\s*\\{", "->", "::", "package", "Random", "Thread", "[a-z]+Exact"};
 
-    public static void main(String[] args) throws IOException {
+    /** Around each bound of the document, and the ends of the range. */
+    private static final int[] ARGUMENTS = {MIN, -100, -99, -1, 0, 1, 2, 3, 4, 6, 9, 10, 20, 60, 64, 99, 100, MAX};
+    private static final int CALLS_OF_AN_OBJECT = 512, CALLS_AHEAD = 50;
+
+    public static void main(String[] args) throws IOException, IllegalAccessException {
         due.part("face");
         due.is("modifiers", CodeQuiz.class.getModifiers(), Modifier.PUBLIC | Modifier.FINAL);
         constructors();
@@ -38,6 +43,7 @@ public final class FaceTest {
             staticFieldsAreFinal(inside);
         }
         words();
+        noCallThrows();
         due.end();
     }
 
@@ -87,6 +93,38 @@ public final class FaceTest {
             int modifiers = field.getModifiers();
             due.holds(field + " is final if static", !Modifier.isStatic(modifiers) || Modifier.isFinal(modifiers));
         }
+    }
+
+    private static void noCallThrows() throws IllegalAccessException {
+        for (Method method : CodeQuiz.class.getMethods()) {
+            if (METHODS.containsKey(method.getName())) {
+                noCallThrows(method, false);
+                noCallThrows(method, true);
+            }
+        }
+    }
+
+    /** All arguments together with all others, on a desk without programs or on one that was used. */
+    private static void noCallThrows(Method method, boolean used) throws IllegalAccessException {
+        int parameters = method.getParameterCount();
+        int all = (int) Math.pow(ARGUMENTS.length, parameters);
+        CodeQuiz desk = null;
+        String thrown = "";
+        for (int i = 0; i < all; i++) {
+            if (i % (CALLS_OF_AN_OBJECT - CALLS_AHEAD) == 0) {
+                desk = used ? usedDesk() : new CodeQuiz();
+            }
+            Object[] arguments = new Object[parameters];
+            for (int k = 0, rest = i; k < parameters; k++, rest /= ARGUMENTS.length) {
+                arguments[k] = ARGUMENTS[rest % ARGUMENTS.length];
+            }
+            try {
+                method.invoke(desk, arguments);
+            } catch (InvocationTargetException e) {
+                thrown = Arrays.toString(arguments) + " " + e.getCause();
+            }
+        }
+        due.holds(method.getName() + " never throws: " + thrown, thrown.isEmpty());
     }
 
     private static void words() throws IOException {

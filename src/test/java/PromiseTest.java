@@ -1,16 +1,9 @@
-/** One method for each promise of the document: ordinary inputs, the edges that it names, and wrong inputs. */
-public final class PromiseTest {
-    private static final int NONE = -1, FULL = -2, STATE = -3, NO_VALUE = -2000000000, NOTHING = -5;
-    private static final int SET = 0, COPY = 1, ADD = 2, SUB = 3, LOOP = 4, LESS = 5, END = 6, PUT = 7, GET = 8,
-            SHARE = 9;
-    private static final int[] ODD = {-1, Integer.MIN_VALUE, Integer.MAX_VALUE};
-    private static final Due due = new Due();
-
+/** The promises of the document, one after the other: what they do in ordinary use; their edges are in *EdgesTest. */
+public final class PromiseTest extends Desks {
     public static void main(String[] args) {
         constants();
         newObject();
         program();
-        lineNumbersAndLimits();
         lineState();
         about();
         whole();
@@ -49,30 +42,6 @@ public final class PromiseTest {
         due.end();
     }
 
-    /** A new desk with a program of the lines: op, x, y, op, x, y, .. */
-    private static CodeQuiz desk(int... lines) {
-        CodeQuiz desk = new CodeQuiz();
-        add(desk, lines);
-        return desk;
-    }
-
-    private static int add(CodeQuiz desk, int... lines) {
-        int p = desk.program();
-        for (int i = 0; i < lines.length; i += 3) {
-            due.is("line " + i / 3, desk.line(p, lines[i], lines[i + 1], lines[i + 2]), i / 3);
-        }
-        return p;
-    }
-
-    /** The number of steps, and then some of what is told. */
-    private static void ran(CodeQuiz desk, int input, int machine, int steps, int... whatAndWant) {
-        String name = "run(0, " + input + ", " + machine + ")";
-        due.is(name, desk.run(0, input, machine), steps);
-        for (int i = 0; i < whatAndWant.length; i += 2) {
-            due.is(name + " told(" + whatAndWant[i] + ")", desk.told(whatAndWant[i]), whatAndWant[i + 1]);
-        }
-    }
-
     private static void constants() {
         due.part("constants");
         due.is("NONE", CodeQuiz.NONE, NONE);
@@ -109,41 +78,6 @@ public final class PromiseTest {
         due.is("whole of the last", desk.whole(9), 1);
         due.is("no program 10", desk.whole(10), NONE);
         due.is("no line in a new program", desk.about(9, 0, 0), NO_VALUE);
-    }
-
-    private static void fits(int op, int x, int y, int want) {
-        CodeQuiz desk = desk(LOOP, 0, 0);
-        due.is("line(0, " + op + ", " + x + ", " + y + ")", desk.line(0, op, x, y), want);
-        due.is("lines after it", desk.count(2), want < 0 ? 1 : 2);
-    }
-
-    private static void lineNumbersAndLimits() {
-        due.part("3 line");
-        int[][] limits = {
-            // op, least x, greatest x, least y, greatest y
-            {SET, 0, 3, -99, 99}, {COPY, 0, 3, 0, 3}, {ADD, 0, 3, 0, 3}, {SUB, 0, 3, 0, 3}, {LOOP, 0, 3, 0, 0},
-            {LESS, 0, 3, 0, 3}, {END, 0, 0, 0, 0}, {PUT, 0, 7, 0, 3}, {GET, 0, 3, 0, 7}, {SHARE, 0, 1, 0, 1}};
-        for (int[] l : limits) {
-            fits(l[0], l[1], l[3], 1);
-            fits(l[0], l[2], l[4], 1);
-            fits(l[0], l[1], l[4], 1);
-            fits(l[0], l[2], l[3], 1);
-            fits(l[0], l[1] - 1, l[3], NONE);
-            fits(l[0], l[2] + 1, l[3], NONE);
-            fits(l[0], l[1], l[3] - 1, NONE);
-            fits(l[0], l[1], l[4] + 1, NONE);
-            for (int odd : ODD) {
-                fits(l[0], odd, 0, NONE);
-                fits(l[0], 0, odd == -1 ? -100 : odd, NONE);
-            }
-        }
-        fits(10, 0, 0, NONE);
-        for (int odd : ODD) {
-            fits(odd, 0, 0, NONE);
-            due.is("line of no program", desk().line(odd, SET, 0, 0), NONE);
-        }
-        due.is("line of no program", desk().line(1, SET, 0, 0), NONE);
-        due.is("line of no program", desk().line(10, SET, 0, 0), NONE);
     }
 
     private static void lineState() {
@@ -492,19 +426,6 @@ public final class PromiseTest {
         due.is("as it is when it is spent", desk.answer(1, 2), 94);
     }
 
-    /** Answers to question 0: 0 by 7, 1 by 8; none other but by the slips of LOOP, COPY, LESS, SUB. */
-    private static CodeQuiz richDesk() {
-        CodeQuiz desk = desk(
-                SET, 1, 1, LOOP, 0, 0, ADD, 2, 1, END, 0, 0,     // 2 becomes the input, by slip 2 one more
-                SUB, 2, 1,                                       // one less, by slip 16 below 0
-                SET, 3, 50, COPY, 3, 1, ADD, 2, 3,               // 1 more, by slip 4 50 more
-                LESS, 0, 0, SET, 2, 77, END, 0, 0,               // by slip 8 it is 77
-                SET, 0, 2, SET, 3, 20, PUT, 0, 3, SET, 0, 1, GET, 3, 0, ADD, 2, 3, // by slip 32 20 more
-                SET, 0, 0);
-        due.is("question", desk.question(0, 3, 0, 2), 0);
-        return desk;
-    }
-
     private static void choices() {
         due.part("11 choices");
         CodeQuiz desk = richDesk();
@@ -762,31 +683,15 @@ public final class PromiseTest {
             due.is("no program", desk.same(odd, 0), NONE);
             due.is("no program", desk.same(0, odd), NONE);
         }
-        // Both spent from 6 on, with other variables; and one spent, the other not.
         CodeQuiz spent = desk(LOOP, 0, 0, LOOP, 0, 0, LOOP, 0, 0, END, 0, 0, END, 0, 0, END, 0, 0);
         add(spent, LOOP, 0, 0, LOOP, 0, 0, LOOP, 0, 0, SET, 1, 0, END, 0, 0, END, 0, 0, END, 0, 0);
         add(spent);
         add(spent, SET, 1, 5, LESS, 1, 0, SET, 1, 99, SET, 2, 99, LOOP, 1, 0, LOOP, 1, 0, END, 0, 0, END, 0, 0,
                 END, 0, 0, SET, 1, 0);
-        due.is("the longer one is spent by 6, the other by 7", spent.same(0, 1), firstUnlike(spent));
-        due.is("spent by 6", spent.same(0, 2), firstSpent(spent, 0));
+        // n: 1 + 2n + 2n^2 + n^3 steps, 186 by 5 and 301 by 6; with the SET n^3 more, 169 by 4 and 311 by 5.
+        due.is("the longer one is spent by 5", spent.same(0, 1), 5);
+        due.is("the shorter one is spent by 6", spent.same(0, 2), 6);
         due.is("spent from 6 on", spent.same(3, 2), 6);
-    }
-
-    private static int firstSpent(CodeQuiz desk, int p) {
-        for (int input = 0; input < 10; input++) {
-            desk.run(p, input, 0);
-            if (desk.told(12) == 1) {
-                return input;
-            }
-        }
-        return 10;
-    }
-
-    private static int firstUnlike(CodeQuiz desk) {
-        int one = firstSpent(desk, 0);
-        int other = firstSpent(desk, 1);
-        return one == other ? 10 : Math.min(one, other);
     }
 
     private static void give() {
@@ -989,22 +894,6 @@ public final class PromiseTest {
         due.is("all three apart", desk.next(0), 3);
         desk.give(0, 3, 77);
         due.is("then the other", desk.next(0), 1);
-    }
-
-    /** Question q of the seven is wrong by slip bit q alone, for q below 6. */
-    private static CodeQuiz slipByQuestion(int... slips) {
-        CodeQuiz desk = new CodeQuiz();
-        int[] programOf = new int[6];
-        programOf[0] = add(desk, SHARE, 1, 0, SET, 1, 1, PUT, 0, 1, GET, 2, 4);
-        programOf[1] = add(desk, SET, 1, 1, LOOP, 1, 0, ADD, 2, 1, END, 0, 0);
-        programOf[2] = add(desk, SET, 1, 1, COPY, 2, 1);
-        programOf[3] = add(desk, LESS, 2, 1, SET, 2, 1, END, 0, 0);
-        programOf[4] = add(desk, SET, 2, 1, SUB, 2, 1);
-        programOf[5] = add(desk, SET, 1, 1, PUT, 4, 1, GET, 2, 4);
-        for (int slip : slips) {
-            desk.question(programOf[slip], 0, slip == 0 ? 2 : 0, slip == 0 ? 4 : 2);
-        }
-        return desk;
     }
 
     private static void parting() {
